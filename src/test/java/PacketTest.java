@@ -15,6 +15,7 @@ public final class PacketTest {
         promise12Cut();
         promise12WrongCuts();
         promise13Keep();
+        promise13LongestPacket();
         promise13NoPacket();
         promise14Bring();
         promise14WrongPlaces();
@@ -143,6 +144,21 @@ public final class PacketTest {
         for (int place : new int[] {-1, 8, Integer.MAX_VALUE, Integer.MIN_VALUE}) {
             DUE.thrown("13: keep(" + place + ")", BOUNDS, () -> x.keep(place));
         }
+    }
+
+    private static void promise13LongestPacket() {
+        GuardedPackets x = SenderTest.with(256, 32, true);
+        for (int k = 0; k < 25; k++) {
+            x.feed(8, k);
+        }
+        x.seal(256, 1);
+        long end = x.packet(228);
+        x.keep(7);
+        x.wipe();
+        x.seal(256, 2);
+        DUE.answer("13: bring of 236 bytes", x.bring(7), 236);
+        DUE.answer("13: their end", x.packet(228), end);
+        DUE.answer("13: open() of it", x.open(), 1);
     }
 
     private static void promise13NoPacket() {

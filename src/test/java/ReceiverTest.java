@@ -432,6 +432,11 @@ public final class ReceiverTest {
         x.seal(NAME, 1);
         x.open();
         DUE.answer("19: the lowest and the highest bit", x.given(NAME, 0), 1L << 63 | 1);
+        x.hurry(NAME, 65);
+        x.seal(NAME, 1);
+        x.open();
+        DUE.answer("19: just 64 bits", x.given(NAME, 1), 2);
+        DUE.answer("19: the next bits", x.given(NAME, 65), 1);
         x.hurry(NAME, 1023);
         x.seal(NAME, 1);
         x.open();

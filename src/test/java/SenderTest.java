@@ -17,6 +17,7 @@ public final class SenderTest {
         promise2SixteenAtMost();
         promise2RefusedAddChangesNothing();
         promise3Drop();
+        promise3AddBehindDrop();
         promise3AddedAgainIsNew();
         promise4Hurry();
         promise4WrongHurries();
@@ -150,6 +151,26 @@ public final class SenderTest {
         x.drop(400);
         DUE.answer("3: open() of a dropped one's packet", x.open(), -2);
         DUE.answer("3: size() stays", x.size(), 36);
+    }
+
+    /** What is added behind a drop is an association of its own, not one of those left. */
+    private static void promise3AddBehindDrop() {
+        GuardedPackets x = new GuardedPackets();
+        for (int name = 400; name < 404; name++) {
+            x.add(name, name, 0, 0, 32, true);
+            x.hurry(name, name);
+        }
+        x.drop(401);
+        x.add(500, 7, 0, 0, 64, false);
+        x.hurry(500, 9);
+        int[] names = {400, 402, 403, 500};
+        long[] lasts = {400, 402, 403, 9};
+        for (int i = 0; i < 4; i++) {
+            DUE.answer("3: name(" + i + ") behind an add", x.name(i), names[i]);
+            DUE.answer("3: told(" + names[i] + ", 0)", x.told(names[i], 0), lasts[i]);
+            x.seal(names[i], i);
+            DUE.answer("3: open() of " + names[i], x.open(), i);
+        }
     }
 
     private static void promise3AddedAgainIsNew() {
