@@ -5,10 +5,7 @@ public final class ReceiverTest {
     private static final Class<IllegalArgumentException> ARGUMENT = IllegalArgumentException.class;
     private static final Class<IllegalStateException> STATE = IllegalStateException.class;
     private static final Due DUE = new Due("ReceiverTest");
-    private static final long HIGH = 0x0F1E2D3C4B5A6978L;
-    private static final long LOW = 0x8796A5B4C3D2E1F0L;
-    private static final int NAME = 0x00ABCDEF;
-    private static final int SALT = 0xFEDCBA98;
+    private static final int NAME = Forge.NAME;
 
     private ReceiverTest() {
     }
@@ -35,42 +32,8 @@ public final class ReceiverTest {
         DUE.finish();
     }
 
-    private static GuardedPackets receiver(int window, boolean extended) {
-        GuardedPackets x = new GuardedPackets();
-        x.add(NAME, HIGH, LOW, SALT, window, extended);
-        return x;
-    }
-
-    /** Makes any bytes the packet: those of a long one are cut and spoilt until they are these. */
-    private static void send(GuardedPackets x, byte[] packet) {
-        x.add(256, 0, 0, 0, 32, true);
-        x.wipe();
-        for (int k = 0; k < 25; k++) {
-            x.feed(8, 0);
-        }
-        x.seal(256, 0);
-        x.cut(packet.length);
-        for (int i = 0; i < packet.length; i++) {
-            x.spoil(i, packet[i] & 255);
-        }
-        x.wipe();
-    }
-
-    private static byte[] packet(boolean extended, long number, long carried, int... plain) {
-        byte[] body = new byte[plain.length];
-        for (int i = 0; i < plain.length; i++) {
-            body[i] = (byte) plain[i];
-        }
-        return Crypto.packet(Crypto.key(HIGH, LOW), NAME, SALT, extended, number, carried, body);
-    }
-
-    private static int opened(GuardedPackets x, boolean extended, long number) {
-        send(x, packet(extended, number, number, 1, 2, 2, 77));
-        return x.open();
-    }
-
     private static void promise15Shape() {
-        GuardedPackets x = receiver(32, true);
+        GuardedPackets x = Forge.receiver(32, true);
         for (int n = 0; n < 3; n++) {
             x.feed(8, n);
         }
@@ -89,8 +52,8 @@ public final class ReceiverTest {
     }
 
     private static void promise15UnknownName() {
-        GuardedPackets x = receiver(32, true);
-        x.add(NAME + 1, HIGH, LOW, SALT, 32, true);
+        GuardedPackets x = Forge.receiver(32, true);
+        x.add(NAME + 1, Forge.HIGH, Forge.LOW, Forge.SALT, 32, true);
         x.seal(NAME, 3);
         x.spoil(0, 255);
         DUE.answer("15: open() with a name below 0", x.open(), -2);
@@ -107,7 +70,7 @@ public final class ReceiverTest {
 
     private static void promise15OnceAlone() {
         for (boolean extended : new boolean[] {true, false}) {
-            GuardedPackets x = receiver(32, extended);
+            GuardedPackets x = Forge.receiver(32, extended);
             x.feed(2, 0x0201);
             for (int next : new int[] {0, 1, 58, 60, 254, 255}) {
                 x.seal(NAME, next);
@@ -125,7 +88,7 @@ public final class ReceiverTest {
     private static void promise15EverySpoiltBit() {
         for (boolean extended : new boolean[] {true, false}) {
             for (int i = 0; i < 40; i++) {
-                GuardedPackets x = receiver(1024, extended);
+                GuardedPackets x = Forge.receiver(1024, extended);
                 x.hurry(NAME, 500);
                 x.feed(5, 0x0504030201L);
                 x.seal(NAME, 6);
@@ -147,7 +110,7 @@ public final class ReceiverTest {
     }
 
     private static void promise15ShortWindow() {
-        GuardedPackets x = receiver(32, false);
+        GuardedPackets x = Forge.receiver(32, false);
         for (int place = 0; place < 8; place++) {
             x.seal(NAME, place);
             x.keep(place);
@@ -168,20 +131,20 @@ public final class ReceiverTest {
     private static void promise15WindowEdges() {
         for (int window : new int[] {32, 64, 96, 1024}) {
             for (boolean extended : new boolean[] {true, false}) {
-                GuardedPackets x = receiver(window, extended);
-                DUE.answer("15: open() of 0 of a new one", opened(x, extended, 0), -3);
-                DUE.answer("15: open() of W", opened(x, extended, window), 77);
+                GuardedPackets x = Forge.receiver(window, extended);
+                DUE.answer("15: open() of 0 of a new one", Forge.opened(x, extended, 0), -3);
+                DUE.answer("15: open() of W", Forge.opened(x, extended, window), 77);
                 DUE.answer("15: open() of 0, not above T - W, or taken for 2^32",
-                    opened(x, extended, 0), extended ? -4 : -3);
-                x = receiver(window, extended);
-                DUE.answer("15: open() of W + 5", opened(x, extended, window + 5), 77);
+                    Forge.opened(x, extended, 0), extended ? -4 : -3);
+                x = Forge.receiver(window, extended);
+                DUE.answer("15: open() of W + 5", Forge.opened(x, extended, window + 5), 77);
                 if (!extended) {
-                    DUE.answer("15: open() of T - W", opened(x, extended, 5), -3);
+                    DUE.answer("15: open() of T - W", Forge.opened(x, extended, 5), -3);
                     DUE.answer("15: told(NAME, 3)", x.told(NAME, 3), 1);
                 }
-                x = receiver(window, extended);
-                opened(x, extended, window + 5);
-                DUE.answer("15: open() of T - W + 1", opened(x, extended, 6), 77);
+                x = Forge.receiver(window, extended);
+                Forge.opened(x, extended, window + 5);
+                DUE.answer("15: open() of T - W + 1", Forge.opened(x, extended, 6), 77);
                 DUE.answer("15: the top", x.told(NAME, 1), window + 5);
                 DUE.answer("15: T - W + 1 as a bit", x.given(NAME, window - 1), 1);
             }
@@ -189,36 +152,36 @@ public final class ReceiverTest {
     }
 
     private static void promise15ShortNumbers() {
-        GuardedPackets x = receiver(32, false);
-        DUE.answer("15: open() of 0", opened(x, false, 0), -3);
-        DUE.answer("15: open() of 2^31", opened(x, false, 1L << 31), 77);
-        x = receiver(32, false);
-        DUE.answer("15: open() of 2^32 - 1", opened(x, false, 4294967295L), 77);
+        GuardedPackets x = Forge.receiver(32, false);
+        DUE.answer("15: open() of 0", Forge.opened(x, false, 0), -3);
+        DUE.answer("15: open() of 2^31", Forge.opened(x, false, 1L << 31), 77);
+        x = Forge.receiver(32, false);
+        DUE.answer("15: open() of 2^32 - 1", Forge.opened(x, false, 4294967295L), 77);
         DUE.answer("15: the top", x.told(NAME, 1), 4294967295L);
-        DUE.answer("15: open() of 1 behind it", opened(x, false, 1), -3);
-        x = receiver(32, false);
-        opened(x, false, 4294967295L);
-        DUE.answer("15: open() of T - 31", opened(x, false, 4294967295L - 31), 77);
-        x = receiver(32, false);
-        opened(x, false, 4294967295L);
-        DUE.answer("15: open() of T - 32", opened(x, false, 4294967295L - 32), -3);
+        DUE.answer("15: open() of 1 behind it", Forge.opened(x, false, 1), -3);
+        x = Forge.receiver(32, false);
+        Forge.opened(x, false, 4294967295L);
+        DUE.answer("15: open() of T - 31", Forge.opened(x, false, 4294967295L - 31), 77);
+        x = Forge.receiver(32, false);
+        Forge.opened(x, false, 4294967295L);
+        DUE.answer("15: open() of T - 32", Forge.opened(x, false, 4294967295L - 32), -3);
     }
 
     /** From T - W + 1 on, 2^32 numbers are told from each other by their lowest 32 bits. */
     private static void promise15LongNumbers() {
         long round = 1L << 32;
-        GuardedPackets x = receiver(32, true);
-        DUE.answer("15: open() of the last of a new one", opened(x, true, round - 32), 77);
+        GuardedPackets x = Forge.receiver(32, true);
+        DUE.answer("15: open() of the last of a new one", Forge.opened(x, true, round - 32), 77);
         DUE.answer("15: the top", x.told(NAME, 1), round - 32);
-        x = receiver(32, true);
+        x = Forge.receiver(32, true);
         DUE.answer("15: open() of 2^32 - 31, which it takes for -31",
-            opened(x, true, round - 31), -3);
+            Forge.opened(x, true, round - 31), -3);
         DUE.answer("15: told(NAME, 3)", x.told(NAME, 3), 1);
-        x = receiver(32, true);
-        opened(x, true, round - 32);
-        DUE.answer("15: open() of 2^32 + 1", opened(x, true, round + 1), 77);
+        x = Forge.receiver(32, true);
+        Forge.opened(x, true, round - 32);
+        DUE.answer("15: open() of 2^32 + 1", Forge.opened(x, true, round + 1), 77);
         DUE.answer("15: the top", x.told(NAME, 1), round + 1);
-        x = receiver(32, true);
+        x = Forge.receiver(32, true);
         long top = 0;
         x.wipe();
         for (int k = 1; k <= 20; k++) {
@@ -237,8 +200,8 @@ public final class ReceiverTest {
     /** The eight bytes go into J alone: another number there opens, if the seal was made so. */
     private static void promise15CarriedBytes() {
         for (boolean extended : new boolean[] {true, false}) {
-            GuardedPackets x = receiver(32, extended);
-            send(x, packet(extended, 5, 0xF123456789ABCDEFL, 9, 8, 0, 40));
+            GuardedPackets x = Forge.receiver(32, extended);
+            Forge.send(x, Forge.packet(extended, 5, 0xF123456789ABCDEFL, 9, 8, 0, 40));
             DUE.answer("15: open() with other eight bytes", x.open(), 40);
             DUE.answer("15: data(0)", x.data(0), 0x0809);
             DUE.answer("15: the top is the number", x.told(NAME, 1), 5);
@@ -252,10 +215,10 @@ public final class ReceiverTest {
             {1, 2, 3, 4, 5, 6, 6, 7}, {9, 1, 2, 3, 4, 5, 5, 7}, {1, 1, 1, 1, 1, 1, 1, 7},
         };
         int[] lengths = {0, 1, 2, 0, 1, 5};
-        GuardedPackets x = receiver(32, true);
+        GuardedPackets x = Forge.receiver(32, true);
         for (int i = 0; i < bodies.length; i++) {
-            x = i % 2 == 0 ? receiver(32, true) : x;
-            send(x, packet(true, i + 1, i + 1, bodies[i]));
+            x = i % 2 == 0 ? Forge.receiver(32, true) : x;
+            Forge.send(x, Forge.packet(true, i + 1, i + 1, bodies[i]));
             DUE.answer("15: open() of " + Arrays.toString(bodies[i]), x.open(), 7);
             DUE.answer("15: got() of " + Arrays.toString(bodies[i]), x.got(), lengths[i]);
         }
@@ -265,13 +228,13 @@ public final class ReceiverTest {
         }
         longest[202] = 202;
         longest[203] = 0;
-        x = receiver(32, true);
-        send(x, packet(true, 1, 1, longest));
+        x = Forge.receiver(32, true);
+        Forge.send(x, Forge.packet(true, 1, 1, longest));
         DUE.answer("15: open() of fill alone", x.open(), 0);
         DUE.answer("15: got() of fill alone", x.got(), 0);
         longest[202] = 0;
-        x = receiver(32, true);
-        send(x, packet(true, 1, 1, longest));
+        x = Forge.receiver(32, true);
+        Forge.send(x, Forge.packet(true, 1, 1, longest));
         DUE.answer("15: open() of no fill", x.open(), 0);
         DUE.answer("15: got() of no fill", x.got(), 202);
         DUE.answer("15: data(196) of no fill", x.data(196), 0x0000CAC9C8C7C6C5L);
@@ -285,12 +248,12 @@ public final class ReceiverTest {
         int[] due = {-5, -5, -5, -5, -5, -5, -5, -5, -5, -6, -6};
         for (int i = 0; i < bodies.length; i++) {
             String body = Arrays.toString(bodies[i]);
-            GuardedPackets x = receiver(32, true);
+            GuardedPackets x = Forge.receiver(32, true);
             x.feed(3, 0x030201);
             x.seal(NAME, 1);
             x.open();
             DUE.answer("15: got() before", x.got(), 3);
-            send(x, packet(true, 9, 9, bodies[i]));
+            Forge.send(x, Forge.packet(true, 9, 9, bodies[i]));
             DUE.answer("15: open() of " + body, x.open(), due[i]);
             DUE.answer("15: got() of " + body, x.got(), 0);
             DUE.answer("15: data(0) of " + body, x.data(0), 0);
@@ -302,7 +265,7 @@ public final class ReceiverTest {
     }
 
     private static void promise15OrderOfFaults() {
-        GuardedPackets x = receiver(32, true);
+        GuardedPackets x = Forge.receiver(32, true);
         x.seal(NAME, 4);
         x.keep(0);
         x.open();
@@ -318,10 +281,10 @@ public final class ReceiverTest {
     }
 
     private static void promise16EveryLength() {
-        GuardedPackets x = receiver(32, true);
+        GuardedPackets x = Forge.receiver(32, true);
         for (int n = 0; n <= 200; n++) {
             if (n % 100 == 0) {
-                x = receiver(32, true);
+                x = Forge.receiver(32, true);
                 for (int i = 0; i < n; i++) {
                     x.feed(1, i);
                 }
@@ -334,7 +297,7 @@ public final class ReceiverTest {
     }
 
     private static void promise16And17Got() {
-        GuardedPackets x = receiver(32, true);
+        GuardedPackets x = Forge.receiver(32, true);
         byte[] all = new byte[200];
         for (int i = 0; i < 200; i++) {
             all[i] = (byte) (3 * i + 1);
@@ -366,7 +329,7 @@ public final class ReceiverTest {
     }
 
     private static void promise18Told() {
-        GuardedPackets x = receiver(96, true);
+        GuardedPackets x = Forge.receiver(96, true);
         x.add(NAME + 1, 1, 2, 3, 32, false);
         x.feed(5, 0);
         x.hurry(NAME, 20);
@@ -395,7 +358,7 @@ public final class ReceiverTest {
     }
 
     private static void promise19Given() {
-        GuardedPackets x = receiver(32, true);
+        GuardedPackets x = Forge.receiver(32, true);
         DUE.answer("19: given(NAME, 0) of a new one", x.given(NAME, 0), 0);
         long due = 0;
         for (int k = 1; k <= 100; k++) {
@@ -425,7 +388,7 @@ public final class ReceiverTest {
     }
 
     private static void promise19WideWindow() {
-        GuardedPackets x = receiver(1024, true);
+        GuardedPackets x = Forge.receiver(1024, true);
         x.seal(NAME, 1);
         x.open();
         x.hurry(NAME, 63);
