@@ -19,6 +19,7 @@ public final class BoundaryTest {
         promise2NoneWithThisName();
         promise3WhetherItWasThere();
         promise3DownToNone();
+        promise3NothingIsLeft();
         promise4BelowTheLast();
         promise4AboveTheGreatest();
         promise5BelowZero();
@@ -147,8 +148,40 @@ public final class BoundaryTest {
         DUE.answer("3: name(0) of none", x.name(0), -1);
         for (int k = 0; k < 16; k++) {
             DUE.answer("3: add behind all drops", x.add(1000 + k, 1, 2, 3, 64, false), true);
+            x.hurry(1000 + k, k);
         }
-        DUE.answer("3: told(6) behind all drops", x.told(1015, 6), 64);
+        for (int k = 0; k < 16; k++) {
+            DUE.answer("3: name(" + k + ") behind all drops", x.name(k), 1000 + k);
+            DUE.answer("3: each is one of its own", x.told(1000 + k, 0), k);
+            DUE.answer("3: with its own window", x.told(1000 + k, 6), 64);
+        }
+    }
+
+    /** "An association is gone": what is added with its name, or in its place, is new. */
+    private static void promise3NothingIsLeft() {
+        for (int again : new int[] {NAME, NAME + 1}) {
+            GuardedPackets x = Forge.receiver(1024, true);
+            fill(x, 9);
+            x.hurry(NAME, 40);
+            for (int k = 0; k < 3; k++) {
+                x.seal(NAME, 1);
+                x.open();
+                x.open();
+                x.spoil(7, 90);
+                x.open();
+            }
+            x.drop(NAME);
+            x.add(again, Forge.HIGH, Forge.LOW, Forge.SALT, 1024, true);
+            long[] due = {0, 0, 0, 0, 0, 1000000000, 1024, 1};
+            for (int what = 0; what < 8; what++) {
+                DUE.answer("3: told(" + what + ") of a new one", x.told(again, what), due[what]);
+            }
+            x.hurry(again, 99);
+            x.seal(again, 1);
+            DUE.answer("3: open() of a new one", x.open(), 1);
+            DUE.answer("3: given(0) of a new one", x.given(again, 0), 1);
+            DUE.answer("3: given(50) of a new one", x.given(again, 50), 0);
+        }
     }
 
     /** "that is below it": one below is refused, the same and one above are not. */
@@ -696,6 +729,10 @@ public final class BoundaryTest {
         DUE.answer("19: the 64th and the 127th below", y.given(NAME, 64), Long.MIN_VALUE | 1);
         DUE.answer("19: the 127th below", y.given(NAME, 127), 1);
         DUE.answer("19: the 128th below", y.given(NAME, 128), 0);
+        y.hurry(NAME, 191);
+        y.seal(NAME, 1);
+        y.open();
+        DUE.answer("19: 64 below the lowest is one too many", y.given(NAME, 63), 2);
     }
 
     /** "those not above T - W are 0", though they were given out. */
